@@ -745,7 +745,7 @@ public final class SparseChecks {
             return signs;
         }
 
-        /** Sends the MESSAGES of a CHECK by what was found: whether one, or a TOTAL, is another than it was. */
+        /** Sends the MESSAGES of a CHECK by what was found: whether one is another than it was. */
         private boolean sendMessages(State state, int over, int from, int signs) {
             boolean changes = false;
             int amount = held(least - state.offset, 0, MOST_MESSAGE);
@@ -757,10 +757,10 @@ public final class SparseChecks {
                     if ((signs ^ value >>> 31) != 0) {
                         sent = -sent;
                     }
-                    int total = held(value + sent, -MOST_TOTAL, MOST_TOTAL);
-                    if (state.message[from + bit] != sent || state.total[bit] != total) {
+                    // By the MESSAGE that there was Q comes back to the TOTAL that there is.
+                    if (state.message[from + bit] != sent) {
                         state.message[from + bit] = sent;
-                        state.total[bit] = total;
+                        state.total[bit] = held(value + sent, -MOST_TOTAL, MOST_TOTAL);
                         changes = true;
                     }
                 }

@@ -238,6 +238,8 @@ public final class ActsTest {
         // Of like long ones the one over fewest bits, of like ones the least.
         grown("C60c01.c125.c13.c14.", 0, 2, 5);
         grown("C60c01.c12.c13.c14.", 0, 2, 3);
+        // A check over many bits is one, too.
+        grown("C90c0.c12345678.", 0, 2, 3);
         // A bit in no check: all are out of reach, the one with the fewest bits.
         grown("C40c01.c1.c12.", 3, 1, 2);
         grown("C20c01.c01.c01.", 0, 3, 7);

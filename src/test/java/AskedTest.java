@@ -33,6 +33,9 @@ public final class AskedTest {
         Due.is("traps of all", six.traps(1, 6, 0), 1);
         Due.is("the last bit", six.traps(1, 6, 1), 256);
         Due.is("nine bits", six.traps(9, 6, 1), 511);
+        SparseChecks none = Due.coded("C20c0.c1.");
+        Due.is("no trap", none.traps(1, 0, 0), 0);
+        Due.is("no least trap", none.traps(1, 0, 1), SparseChecks.NONE);
         int[] badA = {0, -1, 5, 9, LOWEST, HIGHEST};
         for (int a : badA) {
             Due.is("traps a " + a, x.traps(a, 0, 0), SparseChecks.BAD);
@@ -204,6 +207,9 @@ public final class AskedTest {
         Due.is("a check that there is not", x.which(), 0);
         // Behind one ROUND bit 1 of C20c01. (5, 3; then 5, -3) is turned back, and so is bit 0.
         SparseChecks y = Due.coded("C20c01.", 5, 3);
+        y.see(1, 1);
+        Due.is("not so behind one round", y.which(), 0);
+        y.unsee();
         y.see(1, 0);
         Due.is("behind one round", y.which(), 3);
         y.see(20, 0);

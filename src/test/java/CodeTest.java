@@ -206,6 +206,8 @@ public final class CodeTest {
         sums("C90c.c.", 0, 512, 1);
         sums("C20c0.c1.", 2, 1, SparseChecks.NONE);
         sums("C20c01.c01.c01.", 1, 2, 2);
+        sums("C20c1.", 1, 2, 1);
+        sums("C20c0.", 1, 2, 1);
         sums("C30c012.", 1, 4, 2);
         sums("C30c01.c12.", 2, 2, 3);
         sums("C30c01.c12.c02.", 2, 2, 3);
@@ -238,6 +240,8 @@ public final class CodeTest {
         // By OFFSET 0 both come to 0, which is not less than 0; by 5 neither turns.
         needs("C25c01.", new int[] {9, -9}, none, 2, 0);
         needs("C26c01.c1.c.", new int[] {1, -7}, 1, 0, 6);
+        // By OFFSET 9 alone bit 0 comes to 0 in the first ROUND, not below.
+        needs("C26c01.c1.c.", new int[] {18, -27}, 2, 0, 9);
         needs("C38c12.c2.", new int[] {3, 0, -2}, 1, 0, 2);
         needs("C30c012.c12.c12.", new int[] {-9, 11, -2}, 10, 6, 0);
         needs("C50c01.c023.c0124.c013.c2.c1234.", new int[] {-1, -6, -4, -5, -4}, 20, 0, 0);
