@@ -2,15 +2,21 @@
 final class Due {
     private static int asked = 0;
     private static int wrong = 0;
+    private static String sentence = "";
 
     private Due() {
+    }
+
+    /** Names the document's sentence that what follows tries, so that a wrong answer says what it breaks. */
+    static void sentence(String words) {
+        sentence = " [" + words + "]";
     }
 
     static void is(String call, long got, long want) {
         asked++;
         if (got != want) {
             wrong++;
-            System.out.println(call + " answered " + got + ", due is " + want);
+            System.out.println(call + " answered " + got + ", due is " + want + sentence);
         }
     }
 
@@ -18,7 +24,7 @@ final class Due {
         asked++;
         if (!so) {
             wrong++;
-            System.out.println("not so: " + what);
+            System.out.println("not so: " + what + sentence);
         }
     }
 
