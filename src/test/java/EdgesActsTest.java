@@ -468,6 +468,9 @@ public final class EdgesActsTest {
         grown("C60c01.c1.c2345.", 0, 2, 5);
         // A CHECK over none is out of reach, too.
         grown("C30c01.c12.c.", 0, 2, 5);
+        // To check 2 a way leads by BIT 1, over which both near CHECKS are; to check 3 none, though it is over more.
+        grown("C40c01.c01.c1.c23.", 0, 3, 11);
+        grown("C60c01.c12.c12.c2.c345.", 0, 2, 17);
     }
 
     private static void growGoesByTheLongestShortestWay() {

@@ -84,6 +84,10 @@ public final class EdgesAskedTest {
         ring("C60c01.c12.c23.c34.c45.c0235.", 4);
         ring("C60c01.c12.c023.", 6);
         ring("C90c01.c12.c02.c78.c78.", 4);
+        // Several of like length, over the same BITS.
+        ring("C20c01.c01.c01.", 4);
+        ring("C90c012345678.c012345678.c012345678.c012345678.c012345678.c012345678.", 4);
+        ring("C40c01.c02.c03.c12.c13.c23.", 6);
     }
 
     private static void sums(String code, int rank, int words, int distance) {
@@ -275,6 +279,9 @@ public final class EdgesAskedTest {
         best("C40c123.c012.c0123.c02.", new int[] {-26, -25, -25, -28}, 1, n, 20, n, n, n, n, n, n, n, n);
         best("C30c01.c02.c012.c012.", new int[] {12, -25, -20}, 0, 20, n, n, n, n, n, n, n, n, n);
         best("C30c02.c2.c012.", new int[] {-7, -9, -9}, 3, n, n, n, 2, 2, 2, n, n, n, n);
+        // Behind the best one NEEDS grow: what comes later is another number, but not a lesser one.
+        best("C20c01.c01.", new int[] {-9, 8}, 0, 1, 1, 2, 3, 4, n, n, n, n, n);
+        best("C30c01.c12.c02.", new int[] {-9, 1, -8}, 0, 1, 1, 1, 1, 1, 1, 1, 1, 2, n);
     }
 
     private static void bestIsNone() {
